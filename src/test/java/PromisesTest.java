@@ -59,6 +59,7 @@ public final class PromisesTest {
         tenths();
         gains();
         downs();
+        cuts();
         firsts();
         seeds();
         voices();
@@ -112,7 +113,7 @@ public final class PromisesTest {
     /** kind, m, COST, STOCK, SLATE, what it WOULD. */
     private static final int[][] WOULD = {
         {0, 50, 0, 99, -1, 500}, {0, 50, 0, 99, 300, 300}, {0, 50, 999, 0, 0, 0},
-        {1, 50, 999, 99, -1, 900}, {1, 50, 999, 99, 300, 250}, {1, 50, 0, 0, 30, 0}, {1, 0, 0, 0, 999, 999},
+        {1, 50, 999, 99, -1, 900}, {1, 50, 999, 99, 300, 250}, {1, 50, 0, 0, 30, 0}, {1, 0, 0, 0, 999, 999}, {1, 5, 0, 0, 0, 0},
         {2, 20, 999, 99, -1, 480}, {2, 20, 0, 99, 300, 280}, {2, 20, 0, 0, 10, 0},
         {3, 30, 0, 19, -1, 470}, {3, 30, 0, 20, -1, 440}, {3, 30, 0, 19, 300, 270}, {3, 30, 0, 20, 300, 240},
         {3, 30, 0, 99, 50, 0},
@@ -492,6 +493,27 @@ public final class PromisesTest {
         due("14 the second waits", x.ofSort(1, 3), 7);
 
         x = new FallingSlates();
+        int[] unsorted = {400, 200, 500, 300, 100, 200};
+        int[] left = {0, 0, 1, 0, 0, 0};
+        for (int i = 0; i < 6; i++) {
+            x.seller(0, 0, 0);
+            x.set(i, 2, unsorted[i]);
+            x.set(i, 0, 1);
+        }
+        x.sort(1, 999, 0);
+        int[] order = {4, 1, 5, 3, 0};
+        for (int i : order) {
+            due("14 the cheapest first: " + i, x.ofSeller(i, 4), 1);
+            x.days(1);
+            due("14 the cheapest first: " + i, x.ofSeller(i, 4), 0);
+        }
+        for (int i = 0; i < 6; i++) due("14 STOCK", x.ofSeller(i, 4), left[i]);
+        for (int i = 0; i < 6; i++) x.set(i, 0, 1);
+        for (int i = 0; i < 4; i++) x.sort(1, 999, 0);
+        x.days(1);
+        for (int i = 0; i < 6; i++) due("14 STOCK once more", x.ofSeller(i, 4), left[i]);
+
+        x = new FallingSlates();
         x.seller(0, 0, 0);
         x.seller(0, 0, 0);
         x.set(0, 2, 100);
@@ -833,6 +855,31 @@ public final class PromisesTest {
         due("24 a cut may make it begin anew", x.down(1, 1, 2, -1), 1800 - 100);
     }
 
+    private static void cuts() {
+        int[] cuts = {0, 10, 20, 50, 100};
+        for (int cut : cuts) {
+            FallingSlates x = new FallingSlates();
+            x.seller(0, 0, 1);
+            x.set(0, 2, 500);
+            x.sort(1, 500 - cut, 0);
+            due("24 the cut " + cut, x.down(0, 1, 2, 0), cut);
+            due("24 PURSE by the cut " + cut, x.down(0, 1, 2, -1), 2 * (500 - cut));
+        }
+        FallingSlates x = new FallingSlates();
+        x.seller(0, 0, 0);
+        x.set(0, 0, 9);
+        x.set(0, 2, 5);
+        x.sort(1, 600, 0);
+        due("24 0 at least is not nothing", x.down(0, 1, 2, -1), 10);
+        x = new FallingSlates();
+        x.seller(6, 0, 10);
+        x.set(0, 0, 9);
+        x.set(0, 2, 3);
+        x.sort(1, 900, 0);
+        due("24 down to 0, below COST 1", x.down(0, 1, 2, -1), 1800);
+        due("24 down to 0, below COST 1", x.down(0, 1, 2, 0), 10);
+    }
+
     private static void firsts() {
         FallingSlates x = new FallingSlates();
         due("25 no sort", x.first(0), BEYOND);
@@ -848,6 +895,8 @@ public final class PromisesTest {
         due("25 of like ones the least", x.first(0), 2);
         x.set(2, 0, 0);
         due("25 with a stock", x.first(0), 3);
+        x.set(0, 2, 199);
+        due("25 the first is the cheapest", x.first(0), 0);
         x.set(0, 2, 0);
         due("25 0 is a price", x.first(0), 0);
         due("25 sort 1", x.first(1), BEYOND);

@@ -4,7 +4,7 @@ import java.util.Random;
 
 /** Long runs of drawn calls, each answer held against that of PlainSlates. */
 public final class RandomRunsTest {
-    private static final int RUNS = 400;
+    private static final int RUNS = 250;
     private static final int CALLS = 512;
     private static final String SIGNS = "|&<=>+-*/%";
 
