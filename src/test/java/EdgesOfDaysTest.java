@@ -1,6 +1,7 @@
 /** The sentences of the Terms on a day that goes by, a year and its draws that name an edge, each with its own test. */
 public final class EdgesOfDaysTest extends Checks {
     public static void main(String[] args) {
+        inThisOrder();
         stockIsMoreByMakes();
         purseIsLessByCost();
         asksWithTheStockOfTheDay();
@@ -27,6 +28,20 @@ public final class EdgesOfDaysTest extends Checks {
         FallingSlates x = new FallingSlates();
         for (int i = 0; i + 2 < kindMCm.length; i += 3) x.seller(kindMCm[i], kindMCm[i + 1], kindMCm[i + 2]);
         return x;
+    }
+
+    private static void inThisOrder() {
+        says("A DAY goes by:");
+        FallingSlates x = ofSellers(2, 10, 101, 0, 0, 0);
+        stand(x, 0, 0, 300);
+        stand(x, 1, 9, 295);
+        x.sort(1, 290, 0);
+        read(x, 1, "!(p>f)&t=0");
+        x.days(1);
+        due("it makes one, asks 290, sells it, all on day 0", x.ofSeller(0, 5), -10 + 290);
+        due("the other isn't the cheapest by then", x.ofSeller(1, 4), 9);
+        x.days(1);
+        due("on day 1 nobody buys", x.ofSeller(0, 4), 1);
     }
 
     private static void stockIsMoreByMakes() {
