@@ -1,4 +1,4 @@
-/** What the tests of sentences share: the words that are tested, and answers held against those that are due. */
+/** What the tests share: the words that are tested, and answers held against those that are due. */
 abstract class Checks {
     static final int LOW = -1000000000;
     static final int BEYOND = LOW - 1;
@@ -22,7 +22,8 @@ abstract class Checks {
         held++;
         if (got != want) {
             wrong++;
-            System.out.println(call + " answered " + got + ", due is " + want + ": \"" + words + "\"");
+            String where = words.isEmpty() ? "" : ": \"" + words + "\"";
+            System.out.println(call + " answered " + got + ", due is " + want + where);
         }
     }
 

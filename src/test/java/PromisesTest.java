@@ -1,37 +1,5 @@
 /** Each promise with answers worked out by hand: ordinary inputs, the edges that the document names, wrong inputs. */
-public final class PromisesTest {
-    private static final int LOW = -1000000000;
-    private static final int BEYOND = LOW - 1;
-    private static final int NONE = LOW - 2;
-    private static final int STATE = LOW - 3;
-    private static final int FULL = LOW - 4;
-    private static final int KIND = LOW - 5;
-    private static final int MIN = Integer.MIN_VALUE;
-    private static final int MAX = Integer.MAX_VALUE;
-
-    private static int wrong = 0;
-
-    private static void due(String call, int got, int want) {
-        if (got != want) {
-            wrong++;
-            System.out.println(call + " answered " + got + ", due is " + want);
-        }
-    }
-
-    private static void feedAll(FallingSlates x, String t) {
-        for (int i = 0; i < t.length(); i += 8) {
-            int n = Math.min(8, t.length() - i);
-            long word = 0;
-            for (int k = 0; k < n; k++) word |= (long) (t.charAt(i + k) & 255) << (8 * k);
-            due("feed of " + t, x.feed(word, n), i + n);
-        }
-    }
-
-    private static int read(FallingSlates x, int use, String t) {
-        feedAll(x, t);
-        return x.text(use);
-    }
-
+public final class PromisesTest extends Checks {
     public static void main(String[] args) {
         newObject();
         sellers();
@@ -71,8 +39,7 @@ public final class PromisesTest {
         checks();
         counts();
         told();
-        System.out.println(wrong == 0 ? "all promises hold" : wrong + " answers are not as due");
-        if (wrong != 0) System.exit(1);
+        end();
     }
 
     private static void newObject() {
@@ -271,11 +238,6 @@ public final class PromisesTest {
         due("8 what -1", x.ofSort(0, -1), BEYOND);
         due("8 sort 8", x.ofSort(8, 0), BEYOND);
         due("8 sort -1", x.ofSort(-1, 0), BEYOND);
-    }
-
-    private static void putAll(FallingSlates x, int sheet, int bits, int... row) {
-        due("29 sheet", x.sheet(sheet, bits, row.length), 1);
-        for (int i = 0; i < row.length; i++) due("30 put", x.put(sheet, i, row[i]), 1);
     }
 
     private static void sortsFromSheets() {
