@@ -1132,6 +1132,9 @@ public final class FallingSlates {
         }
 
         private int addStep(int stepSign, int x, int y) {
+            if (size >= sign.length) {
+                return UNREAD;
+            }
             sign[size] = stepSign;
             left[size] = x;
             next[size] = y;
@@ -1190,7 +1193,9 @@ public final class FallingSlates {
                 at++;
             }
             int step = addStep(NUMBER, 0, 0);
-            value[step] = v;
+            if (step >= 0) {
+                value[step] = v;
+            }
             return step;
         }
     }

@@ -1,3 +1,5 @@
+import java.io.DataInputStream;
+import java.io.IOException;
 import java.lang.reflect.Constructor;
 import java.lang.reflect.Field;
 import java.lang.reflect.Method;
@@ -21,6 +23,16 @@ public final class LanguageTest {
         "currentTimeMillis", "hashCode", "\\.equals\\(", "toString", "\\bObject\\b", "\\bpackage\\b", "static \\{",
         "\\bprotected\\b", "\\bimport (?!java\\.util\\.Arrays;)"};
 
+    /** Rule 4, of which a compiled class names the callee; what is overloaded is told with its arguments. */
+    private static final Pattern LIBRARY = Pattern.compile("java/lang/Object\\.<init>\\(\\)"
+        + "|java/lang/String\\.((length|charAt|isEmpty|equals|substring|toCharArray)\\(.*|indexOf\\(I\\)|<init>\\(\\[C\\))"
+        + "|java/lang/StringBuilder\\.(<init>\\(\\)|append\\((C|I|Ljava/lang/String;)\\)"
+        + "|(charAt|setCharAt|setLength|deleteCharAt|reverse|length|toString)\\(.*)"
+        + "|java/util/(ArrayList|List)\\.(<init>\\(\\)|(add|get|set|remove|size|isEmpty|clear|of)\\(.*)"
+        + "|java/lang/(Math|Integer|Long)\\.\\w+(?<!Exact)\\([IJ]*\\)"
+        + "|java/lang/System\\.arraycopy\\(.*|java/util/Arrays\\.(copyOf|copyOfRange|fill)\\(\\[[IJSBCZ].*"
+        + "|\\[.*\\.clone\\(\\)|FallingSlates(\\$\\w+)?\\..*");
+
     private static int wrong = 0;
 
     private static void must(boolean holds, String what) {
@@ -37,7 +49,7 @@ public final class LanguageTest {
         if (wrong != 0) System.exit(1);
     }
 
-    private static void face() {
+    private static void face() throws IOException {
         Class<?> c = FallingSlates.class;
         must(Modifier.isPublic(c.getModifiers()) && Modifier.isFinal(c.getModifiers()), "public and final");
         TreeSet<String> face = new TreeSet<>(List.of(FACE.split(" ")));
@@ -63,7 +75,7 @@ public final class LanguageTest {
         classes(c);
     }
 
-    private static void classes(Class<?> c) {
+    private static void classes(Class<?> c) throws IOException {
         List<Class<?>> all = new ArrayList<>(List.of(c.getDeclaredClasses()));
         must(all.size() <= 11, "twelve classes at most");
         all.add(c);
@@ -76,6 +88,69 @@ public final class LanguageTest {
             }
             must(fields <= 20, inside + " has twenty fields at most");
             for (Method m : inside.getDeclaredMethods()) must(m.getParameterCount() <= 7, m + " takes seven at most");
+            library(inside);
+        }
+    }
+
+    private static void library(Class<?> inside) throws IOException {
+        String file = inside.getName() + ".class";
+        try (DataInputStream in = new DataInputStream(inside.getResourceAsStream(file))) {
+            in.readLong();
+            for (String callee : new Constants(in).callees()) {
+                must(LIBRARY.matcher(callee).matches(), file + " calls what rule 4 doesn't list: " + callee);
+            }
+        }
+    }
+
+    /** What a compiled class names, read from the beginning of its file. */
+    private static final class Constants {
+        private static final int UTF8 = 1;
+        private static final int LONG = 5;
+        private static final int DOUBLE = 6;
+        private static final int CLASS = 7;
+        private static final int STRING = 8;
+        private static final int METHOD = 10;
+        private static final int INTERFACE_METHOD = 11;
+        private static final int METHOD_HANDLE = 15;
+
+        private final int[] tag;
+        private final int[] first;
+        private final int[] second;
+        private final String[] text;
+        private boolean dynamic;
+
+        Constants(DataInputStream in) throws IOException {
+            int count = in.readUnsignedShort();
+            tag = new int[count];
+            first = new int[count];
+            second = new int[count];
+            text = new String[count];
+            for (int i = 1; i < count && !dynamic; i++) {
+                tag[i] = in.readUnsignedByte();
+                dynamic = tag[i] >= METHOD_HANDLE;
+                if (tag[i] == UTF8) {
+                    text[i] = in.readUTF();
+                    continue;
+                }
+                first[i] = in.readUnsignedShort();
+                if (tag[i] != CLASS && tag[i] != STRING) second[i] = in.readUnsignedShort();
+                if (tag[i] == LONG || tag[i] == DOUBLE) {
+                    in.readInt();
+                    i++;
+                }
+            }
+        }
+
+        List<String> callees() {
+            if (dynamic) return List.of("a lambda, a method reference or a text joined by +");
+            List<String> callees = new ArrayList<>();
+            for (int i = 1; i < tag.length; i++) {
+                if (tag[i] != METHOD && tag[i] != INTERFACE_METHOD) continue;
+                String arguments = text[second[second[i]]];
+                callees.add(text[first[first[i]]] + "." + text[first[second[i]]]
+                    + arguments.substring(0, arguments.indexOf(')') + 1));
+            }
+            return callees;
         }
     }
 
